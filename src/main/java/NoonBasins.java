@@ -91,12 +91,19 @@ public final class NoonBasins {
     private static final int ASKED = 22;
     private static final int COLON = 23;
     private static final int NUMBER = 24;
-    private static final int IF = 25;
-    private static final int END = 26;
-    private static final int TAPE_ENDS = 27;
-    private static final int STRANGE = 28;
-    private static final int FIRST_CLAUSE_WORD = 32;
-    private static final int FIRST_NAME_WORD = 40;
+    private static final int TAPE_ENDS = 25;
+    private static final int STRANGE = 26;
+
+    // TOKENS that are words: their places in this row are those of the laws and of the NAMES.
+    private static final String WORDS =
+            "spring flow sun due basin siphon hour day bore clog level fall room height if end or and not ";
+    private static final int FIRST_WORD = 32;
+    private static final int FIRST_NAME = 38;
+    private static final int IF = 46;
+    private static final int END = 47;
+    private static final int OR_WORD = 48;
+    private static final int AND_WORD = 49;
+    private static final int NOT_WORD = 50;
 
     private static final int LARGEST_NUMBER = 9999;
     private static final int LARGEST_SUM = 1000000;
@@ -783,16 +790,17 @@ public final class NoonBasins {
         }
     }
 
-    /** The tape, and what is read from it: TOKENS one by one, and the first FAULT. */
+    /** The tape, and what is read from it: TOKENS, and by them a text or its first FAULT. */
     private static final class Reader {
         private final int[] tape = new int[MOST_BYTES];
         int size;
         int wrong = NONE;
         int wrongPlace = NONE;
+        private final int[] kinds = new int[MOST_BYTES + 1];
+        private final int[] places = new int[MOST_BYTES + 1];
+        private final int[] numbers = new int[MOST_BYTES + 1];
         private int at;
-        private int place;
         private int token;
-        private int number;
         private int law;
         private Text goal;
 
@@ -808,209 +816,58 @@ public final class NoonBasins {
         }
 
         void read(Text text) {
+            cut();
             goal = text;
             goal.clear();
             wrong = 0;
             wrongPlace = NONE;
             at = 0;
-            next();
-            for (int n = 0; n <= MOST_CLAUSES && token != TAPE_ENDS && wrong == 0; n++) {
+            token = kinds[0];
+            for (int n = 0; n <= MOST_CLAUSES && wrong == 0 && token != TAPE_ENDS; n++) {
                 readClause(n);
             }
         }
 
-        private void readClause(int n) {
-            int word = token - FIRST_CLAUSE_WORD;
-            if (!isWithin(word, SPRING, SIPHON_ROW)) {
-                blame(CANT_STAND);
-            } else if (word < LAWS && goal.has(word)) {
-                blame(TWICE);
-            } else if (n >= MOST_CLAUSES) {
-                blame(TOO_MANY);
-            } else {
-                goal.kinds[n] = word;
-                goal.clauses = n + 1;
-                next();
-                if (word < LAWS) {
-                    readLaw(word);
-                } else {
-                    readRow(n * MOST_NUMBERS, word == BASIN_ROW ? 3 : MOST_NUMBERS);
+        private void cut() {
+            int count = 0;
+            int place = 0;
+            for (int n = 0; n < MOST_BYTES && place < size; n++) {
+                int end = endOf(place);
+                if (tape[place] != ' ' && tape[place] != '\n') {
+                    places[count] = place;
+                    kinds[count] = kindOf(place, end);
+                    numbers[count] = kinds[count] == NUMBER ? numberOf(place, end) : 0;
+                    count++;
                 }
-                expect(SEMICOLON);
+                place = end;
             }
+            places[count] = size;
+            kinds[count] = TAPE_ENDS;
         }
 
-        private void readLaw(int word) {
-            law = word;
-            int first = goal.length;
-            readSum(0);
-            goal.begin[word] = first;
-            goal.close[word] = goal.length;
-        }
-
-        private void readRow(int first, int many) {
-            for (int i = 0; i < many && wrong == 0; i++) {
-                if (i > 0) {
-                    expect(COMMA);
+        private int endOf(int place) {
+            int c = tape[place];
+            int end = place + 1;
+            if (isLetter(c)) {
+                while (end < size && isLetter(tape[end])) {
+                    end++;
                 }
-                if (token != NUMBER) {
-                    blame(CANT_STAND);
-                } else if (number > LARGEST_NUMBER) {
-                    blame(TOO_LARGE);
-                } else {
-                    goal.numbers[first + i] = number;
-                    next();
+            } else if (isDigit(c)) {
+                while (end < size && isDigit(tape[end])) {
+                    end++;
                 }
+            } else if ((c == '<' || c == '>') && end < size && tape[end] == '=') {
+                end++;
             }
+            return end;
         }
 
-        private void readSum(int depth) {
-            readProduct(depth);
-            for (int n = 0; n < MOST_BYTES && wrong == 0 && (token == PLUS || token == MINUS); n++) {
-                int sign = token;
-                next();
-                readProduct(depth);
-                goal.put(sign, 0);
+        private int kindOf(int place, int end) {
+            int c = tape[place];
+            if (isLetter(c)) {
+                return wordOf(place, end);
             }
-        }
-
-        private void readProduct(int depth) {
-            readOne(depth);
-            for (int n = 0; n < MOST_BYTES && wrong == 0 && (token == TIMES || token == PARTED); n++) {
-                int sign = token;
-                next();
-                readOne(depth);
-                goal.put(sign, 0);
-            }
-        }
-
-        private void readOne(int depth) {
-            if (token == NUMBER) {
-                readNumber();
-            } else if (isWithin(token, FIRST_NAME_WORD, FIRST_NAME_WORD + NAMES - 1)) {
-                readName(token - FIRST_NAME_WORD);
-            } else if (token != OPENS && token != MINUS && token != IF) {
-                blame(CANT_STAND);
-            } else if (depth >= DEEPEST) {
-                blame(TOO_DEEP);
-            } else if (token == IF) {
-                readChoice(depth + 1);
-            } else if (token == MINUS) {
-                next();
-                readOne(depth + 1);
-                goal.put(NEGATE, 0);
-            } else {
-                next();
-                readSum(depth + 1);
-                expect(CLOSES);
-            }
-        }
-
-        private void readNumber() {
-            if (number > LARGEST_NUMBER) {
-                blame(TOO_LARGE);
-            } else {
-                goal.put(PUSH, number);
-                next();
-            }
-        }
-
-        private void readName(int name) {
-            if ((NAMES_OF_LAW[law] >> name & 1) == 0) {
-                blame(WRONG_NAME);
-            } else {
-                goal.put(NAME, name);
-                goal.asksRoom |= name == ROOM;
-                next();
-            }
-        }
-
-        private void readChoice(int depth) {
-            next();
-            readEither(depth);
-            expect(ASKED);
-            int unless = goal.put(UNLESS, 0);
-            if (wrong == 0) {
-                readSum(depth);
-            }
-            expect(COLON);
-            int over = goal.put(JUMP, 0);
-            goal.leadHere(unless);
-            if (wrong == 0) {
-                readSum(depth);
-            }
-            expect(END);
-            goal.leadHere(over);
-        }
-
-        private void readEither(int depth) {
-            readBoth(depth);
-            for (int n = 0; n < MOST_BYTES && wrong == 0 && token == OR; n++) {
-                next();
-                readBoth(depth);
-                goal.put(OR, 0);
-            }
-        }
-
-        private void readBoth(int depth) {
-            readAsk(depth);
-            for (int n = 0; n < MOST_BYTES && wrong == 0 && token == AND; n++) {
-                next();
-                readAsk(depth);
-                goal.put(AND, 0);
-            }
-        }
-
-        private void readAsk(int depth) {
-            if (token == NOT && depth >= DEEPEST) {
-                blame(TOO_DEEP);
-            } else if (token == NOT) {
-                next();
-                readAsk(depth + 1);
-                goal.put(NOT, 0);
-            } else {
-                readSum(depth);
-                int sign = token;
-                if (!isWithin(sign, LESS, UNLIKE)) {
-                    blame(CANT_STAND);
-                } else if (wrong == 0) {
-                    next();
-                    readSum(depth);
-                    goal.put(sign, 0);
-                }
-            }
-        }
-
-        private void expect(int due) {
-            if (token != due) {
-                blame(CANT_STAND);
-            }
-            if (wrong == 0) {
-                next();
-            }
-        }
-
-        private void blame(int fault) {
-            if (wrong == 0) {
-                wrong = fault;
-                wrongPlace = place;
-            }
-        }
-
-        private void next() {
-            while (at < size && (tape[at] == ' ' || tape[at] == '\n')) {
-                at++;
-            }
-            place = at;
-            if (at >= size) {
-                token = TAPE_ENDS;
-            } else if (isLetter(tape[at])) {
-                nextWord();
-            } else if (isDigit(tape[at])) {
-                nextNumber();
-            } else {
-                nextSign();
-            }
+            return isDigit(c) ? NUMBER : signOf(c, end - place == 2);
         }
 
         private static boolean isLetter(int c) {
@@ -1021,118 +878,38 @@ public final class NoonBasins {
             return isWithin(c, '0', '9');
         }
 
-        private void nextNumber() {
-            token = NUMBER;
-            number = 0;
-            while (at < size && isDigit(tape[at])) {
-                number = Math.min(number * 10 + tape[at] - '0', LARGEST_NUMBER + 1);
-                at++;
+        private int numberOf(int place, int end) {
+            int number = 0;
+            for (int i = place; i < end; i++) {
+                // Any number of digits may come: what is too large stays just that.
+                number = Math.min(number * 10 + tape[i] - '0', LARGEST_NUMBER + 1);
             }
+            return number;
         }
 
-        private void nextWord() {
-            while (at < size && isLetter(tape[at])) {
-                at++;
-            }
-            token = clauseWord();
-            if (token == STRANGE) {
-                token = nameWord();
-            }
-            if (token == STRANGE) {
-                token = askingWord();
-            }
-        }
-
-        private int clauseWord() {
-            if (spells("spring")) {
-                return FIRST_CLAUSE_WORD + SPRING;
-            }
-            if (spells("flow")) {
-                return FIRST_CLAUSE_WORD + FLOW;
-            }
-            if (spells("sun")) {
-                return FIRST_CLAUSE_WORD + SUN;
-            }
-            if (spells("due")) {
-                return FIRST_CLAUSE_WORD + DUE;
-            }
-            if (spells("basin")) {
-                return FIRST_CLAUSE_WORD + BASIN_ROW;
-            }
-            return spells("siphon") ? FIRST_CLAUSE_WORD + SIPHON_ROW : STRANGE;
-        }
-
-        private int nameWord() {
-            if (spells("hour")) {
-                return FIRST_NAME_WORD + HOUR;
-            }
-            if (spells("day")) {
-                return FIRST_NAME_WORD + DAY;
-            }
-            if (spells("bore")) {
-                return FIRST_NAME_WORD + BORE;
-            }
-            if (spells("clog")) {
-                return FIRST_NAME_WORD + CLOG;
-            }
-            if (spells("level")) {
-                return FIRST_NAME_WORD + LEVEL;
-            }
-            if (spells("fall")) {
-                return FIRST_NAME_WORD + FALL;
-            }
-            if (spells("room")) {
-                return FIRST_NAME_WORD + ROOM;
-            }
-            return spells("height") ? FIRST_NAME_WORD + HEIGHT : STRANGE;
-        }
-
-        private int askingWord() {
-            if (spells("if")) {
-                return IF;
-            }
-            if (spells("end")) {
-                return END;
-            }
-            if (spells("or")) {
-                return OR;
-            }
-            if (spells("and")) {
-                return AND;
-            }
-            return spells("not") ? NOT : STRANGE;
-        }
-
-        private boolean spells(String word) {
-            if (word.length() != at - place) {
-                return false;
-            }
-            for (int i = 0; i < word.length(); i++) {
-                if (tape[place + i] != word.charAt(i)) {
-                    return false;
+        private int wordOf(int place, int end) {
+            int word = 0;
+            int like = place;
+            for (int i = 0; i < WORDS.length(); i++) {
+                char c = WORDS.charAt(i);
+                if (c != ' ') {
+                    like = like != NONE && like < end && tape[like] == c ? like + 1 : NONE;
+                } else if (like == end) {
+                    return FIRST_WORD + word;
+                } else {
+                    word++;
+                    like = place;
                 }
             }
-            return true;
+            return STRANGE;
         }
 
-        private void nextSign() {
-            int sign = tape[at];
-            boolean withEqual = at + 1 < size && tape[at + 1] == '=';
-            if (withEqual && (sign == '<' || sign == '>')) {
-                token = sign == '<' ? AT_MOST : AT_LEAST;
-                at += 2;
-            } else {
-                token = signOf(sign);
-                at++;
-            }
-        }
-
-        private static int signOf(int c) {
+        private static int signOf(int c, boolean withEqual) {
             switch (c) {
                 case '<':
-                    return LESS;
+                    return withEqual ? AT_MOST : LESS;
                 case '>':
-                    return MORE;
+                    return withEqual ? AT_LEAST : MORE;
                 case '=':
                     return ALIKE;
                 case '#':
@@ -1161,13 +938,189 @@ public final class NoonBasins {
                     return STRANGE;
             }
         }
+
+        private void advance() {
+            if (wrong == 0 && at < MOST_BYTES) {
+                at++;
+                token = kinds[at];
+            }
+        }
+
+        private void expect(int due) {
+            if (token == due) {
+                advance();
+            } else {
+                blame(CANT_STAND);
+            }
+        }
+
+        /** Behind the first FAULT no TOKEN fits any more, so that all reading comes to its end. */
+        private void blame(int fault) {
+            if (wrong == 0) {
+                wrong = fault;
+                wrongPlace = places[at];
+                token = STRANGE;
+            }
+        }
+
+        private void readClause(int n) {
+            int word = token - FIRST_WORD;
+            if (!isWithin(word, SPRING, SIPHON_ROW)) {
+                blame(CANT_STAND);
+            } else if (word < LAWS && goal.has(word)) {
+                blame(TWICE);
+            } else if (n >= MOST_CLAUSES) {
+                blame(TOO_MANY);
+            } else {
+                goal.kinds[n] = word;
+                goal.clauses = n + 1;
+                advance();
+                if (word < LAWS) {
+                    law = word;
+                    goal.begin[word] = goal.length;
+                    readSum(0);
+                    goal.close[word] = goal.length;
+                } else {
+                    readRow(n * MOST_NUMBERS, word == BASIN_ROW ? 3 : MOST_NUMBERS);
+                }
+                expect(SEMICOLON);
+            }
+        }
+
+        private void readRow(int first, int many) {
+            for (int i = 0; i < many; i++) {
+                if (i > 0) {
+                    expect(COMMA);
+                }
+                goal.numbers[first + i] = numbers[at];
+                readNumber();
+            }
+        }
+
+        private void readNumber() {
+            if (token != NUMBER) {
+                blame(CANT_STAND);
+            } else if (numbers[at] > LARGEST_NUMBER) {
+                blame(TOO_LARGE);
+            } else {
+                advance();
+            }
+        }
+
+        private void readSum(int depth) {
+            readProduct(depth);
+            for (int n = 0; n < MOST_BYTES && (token == PLUS || token == MINUS); n++) {
+                int sign = token;
+                advance();
+                readProduct(depth);
+                goal.put(sign, 0);
+            }
+        }
+
+        private void readProduct(int depth) {
+            readOne(depth);
+            for (int n = 0; n < MOST_BYTES && (token == TIMES || token == PARTED); n++) {
+                int sign = token;
+                advance();
+                readOne(depth);
+                goal.put(sign, 0);
+            }
+        }
+
+        private void readOne(int depth) {
+            if (token == NUMBER) {
+                goal.put(PUSH, numbers[at]);
+                readNumber();
+            } else if (isWithin(token, FIRST_NAME, FIRST_NAME + NAMES - 1)) {
+                readName(token - FIRST_NAME);
+            } else if (token != OPENS && token != MINUS && token != IF) {
+                blame(CANT_STAND);
+            } else if (depth >= DEEPEST) {
+                blame(TOO_DEEP);
+            } else if (token == IF) {
+                readChoice(depth + 1);
+            } else if (token == MINUS) {
+                advance();
+                readOne(depth + 1);
+                goal.put(NEGATE, 0);
+            } else {
+                advance();
+                readSum(depth + 1);
+                expect(CLOSES);
+            }
+        }
+
+        private void readName(int name) {
+            if ((NAMES_OF_LAW[law] >> name & 1) == 0) {
+                blame(WRONG_NAME);
+            } else {
+                goal.put(NAME, name);
+                goal.asksRoom |= name == ROOM;
+                advance();
+            }
+        }
+
+        private void readChoice(int depth) {
+            advance();
+            readEither(depth);
+            expect(ASKED);
+            int unless = goal.put(UNLESS, 0);
+            readSum(depth);
+            expect(COLON);
+            int over = goal.put(JUMP, 0);
+            goal.leadHere(unless);
+            readSum(depth);
+            expect(END);
+            goal.leadHere(over);
+        }
+
+        private void readEither(int depth) {
+            readBoth(depth);
+            for (int n = 0; n < MOST_BYTES && token == OR_WORD; n++) {
+                advance();
+                readBoth(depth);
+                goal.put(OR, 0);
+            }
+        }
+
+        private void readBoth(int depth) {
+            readAsk(depth);
+            for (int n = 0; n < MOST_BYTES && token == AND_WORD; n++) {
+                advance();
+                readAsk(depth);
+                goal.put(AND, 0);
+            }
+        }
+
+        private void readAsk(int depth) {
+            if (token == NOT_WORD && depth >= DEEPEST) {
+                blame(TOO_DEEP);
+            } else if (token == NOT_WORD) {
+                advance();
+                readAsk(depth + 1);
+                goal.put(NOT, 0);
+            } else {
+                readSum(depth);
+                int sign = token;
+                if (isWithin(sign, LESS, UNLIKE)) {
+                    advance();
+                    readSum(depth);
+                    goal.put(sign, 0);
+                } else {
+                    blame(CANT_STAND);
+                }
+            }
+        }
     }
 
     /** Moves water by one TICK, by a text's laws. */
     private static final class Engine {
         private final Works works;
         private final int[] asked = new int[NAMES];
-        private final int[] stack = new int[MOST_BYTES];
+        // A step puts one number at most, and takes two from the top: with two places below the floor
+        // one look at the top ahead of each step keeps all of it within the stack.
+        private static final int STACK_FLOOR = 2;
+        private final int[] stack = new int[STACK_FLOOR + MOST_BYTES];
         Text text;
         // What the searches skip by: whose cock mattered in the latest TICK, and who ever started
         // and which basins ever fell over since the search set these to 0.
@@ -1224,7 +1177,7 @@ public final class NoonBasins {
                 int to = works.to[s];
                 int above = w.drops[from] - works.bare[s];
                 int flow = works.bore[s] - works.clog[s];
-                if (lawful) {
+                if (lawful && above > 0) {
                     asked[BORE] = works.bore[s];
                     asked[CLOG] = works.clog[s];
                     asked[LEVEL] = w.drops[from];
@@ -1257,10 +1210,13 @@ public final class NoonBasins {
 
         private void shine(Water w) {
             for (int b = 0; b < works.basins; b++) {
-                asked[LEVEL] = w.drops[b];
-                asked[ROOM] = works.room[b];
-                asked[HEIGHT] = works.height[b];
-                w.drops[b] -= Math.max(0, Math.min(w.drops[b], worked(SUN, 0)));
+                int has = w.drops[b];
+                if (has > 0) {
+                    asked[LEVEL] = has;
+                    asked[ROOM] = works.room[b];
+                    asked[HEIGHT] = works.height[b];
+                    w.drops[b] -= Math.max(0, Math.min(has, worked(SUN, 0)));
+                }
             }
         }
 
@@ -1287,36 +1243,43 @@ public final class NoonBasins {
             int[] steps = text.steps;
             int at = text.begin[law];
             int close = Math.min(text.close[law], steps.length);
-            int top = 0;
+            int top = STACK_FLOOR;
             for (int n = 0; n < MOST_BYTES && at < close; n++) {
-                int step = steps[at] & STEP_MASK;
+                if (top < STACK_FLOOR || top >= stack.length) {
+                    return without;
+                }
                 int value = steps[at] >> STEP_BITS;
+                int step = steps[at] & STEP_MASK;
                 at++;
-                if (step == PUSH || step == NAME) {
-                    if (top >= MOST_BYTES) {
-                        return without;
-                    }
-                    stack[top] = step == PUSH ? value : asked[value];
-                    top++;
-                } else if (step == JUMP) {
-                    at = value;
-                } else if (top < 1) {
-                    return without;
-                } else if (step == UNLESS) {
-                    top--;
-                    at = stack[top] == 0 ? value : at;
-                } else if (step == NEGATE) {
-                    stack[top - 1] = -stack[top - 1];
-                } else if (step == NOT) {
-                    stack[top - 1] = 1 - stack[top - 1];
-                } else if (top < 2) {
-                    return without;
-                } else {
-                    top--;
-                    stack[top - 1] = joined(step, stack[top - 1], stack[top]);
+                switch (step) {
+                    case PUSH:
+                        stack[top] = value;
+                        top++;
+                        break;
+                    case NAME:
+                        stack[top] = asked[value];
+                        top++;
+                        break;
+                    case JUMP:
+                        at = value;
+                        break;
+                    case UNLESS:
+                        top--;
+                        at = stack[top] == 0 ? value : at;
+                        break;
+                    case NEGATE:
+                        stack[top - 1] = -stack[top - 1];
+                        break;
+                    case NOT:
+                        stack[top - 1] = 1 - stack[top - 1];
+                        break;
+                    default:
+                        top--;
+                        stack[top - 1] = joined(step, stack[top - 1], stack[top]);
+                        break;
                 }
             }
-            return top == 1 ? stack[0] : without;
+            return stack[STACK_FLOOR];
         }
 
         private static int joined(int sign, int a, int b) {
