@@ -618,8 +618,6 @@ public final class NoonBasins {
             works.bore[s] = bore;
             works.rest[s] = rest;
             works.clog[s] = 0;
-            water.rests[s] = 0;
-            water.runs &= ~(1 << s);
             water.open |= 1 << s;
             works.siphons++;
             return s;
@@ -648,7 +646,7 @@ public final class NoonBasins {
             return true;
         }
 
-        /** Notes may still ask for what is there no more: it has to have no DROPS and not to run. */
+        /** Notes may still ask for what is there no more, and a new SIPHON neither runs nor rests. */
         private void clear() {
             works.basins = 0;
             works.siphons = 0;
@@ -1710,12 +1708,11 @@ public final class NoonBasins {
             return broken == BROKEN_NONE || broken < palace.works.siphons;
         }
 
-        /** One that is BROKEN plays as one that has stopped with its cock shut. */
+        /** One that is BROKEN plays as one with its cock shut: how long it rests is never asked. */
         private void listen() {
             for (int s = 0; s <= MOST_SIPHONS; s++) {
                 if (mayBe(s)) {
                     water.copyFrom(palace.water);
-                    water.runs &= ~(1 << s);
                     water.open &= ~(1 << s);
                     for (int t = 0; t < HEARD_TICKS; t++) {
                         played[s * HEARD_TICKS + t] = engine.step(water);

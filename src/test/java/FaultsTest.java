@@ -146,6 +146,13 @@ public final class FaultsTest {
         fault("spring bore;", 5, 7);
         fault("spring 1 + (2 * room);", 5, 16);
         fault("due if hour = 1 ? 1 : 1 end;", 5, 7);
+        fault("(".repeat(300), 1, 0);
+        fault("due" + "1+".repeat(148), 1, 299);
+        fault("due" + "1+".repeat(147) + "22;", 0, -1);
+        fault(" ".repeat(299) + "x", 1, 299);
+        fault("spring".repeat(50), 1, 0);
+        fault("spring " + "1".repeat(293), 2, 7);
+        fault("spring 1<", 1, 8);
     }
 
     private static void depths() {
@@ -253,6 +260,13 @@ public final class FaultsTest {
         Due.is("ticks(1)", x.ticks(1), 17);
         Due.is("drops(0)", x.drops(0), 53);
         Due.is("drops(1)", x.drops(1), 0);
+        NoonBasins z = new NoonBasins();
+        z.basin(50, 99, 99);
+        z.siphon(0, -1, 5, 0, 7, 0);
+        Due.read(z, "spring 0;flow fall*100+hour+day-4967;");
+        z.by(0);
+        Due.is("to the garden all of it", z.ticks(1), 33);
+        Due.is("an hour more", z.ticks(1), 34);
         NoonBasins y = new NoonBasins();
         y.basin(31, 40, 40);
         y.basin(3, 20, 9);

@@ -4,6 +4,7 @@ public final class SearchTest {
         wants();
         goneThings();
         turns();
+        farTurns();
         digs();
         digOrder();
         digBounds();
@@ -136,6 +137,29 @@ public final class SearchTest {
         turnsAre(z, 1, 23, 0);
     }
 
+    /** A turn far above a WANT helps. */
+    private static void farTurns() {
+        Due.promise(19, "turnsOf: from far above");
+        NoonBasins x = new NoonBasins();
+        for (int i = 0; i < 4; i++) {
+            x.basin(90 - i, 9, i == 0 ? 9 : 0);
+        }
+        for (int i = 0; i < 3; i++) {
+            x.siphon(i, i + 1, 1, 0, 9, 0);
+        }
+        // What is above at first comes a basin further down in each TICK: behind TICK 2 it is below.
+        x.image();
+        x.want(2, 3, 3, 9);
+        turnsAre(x, 0);
+        x.cock(0, false);
+        turnsAre(x, 1, 0, 0);
+        x.back();
+        x.siphon(0, -1, 1, 0, 9, 0);
+        x.siphon(2, -1, 1, 0, 9, 0);
+        x.want(3, 4, 3, 0);
+        turnsAre(x, 1, 0, 0);
+    }
+
     private static void digsAre(NoonBasins x, int set, int... due) {
         for (int i = 0; i < 4; i++) {
             Due.is("dig(" + set + ", " + i + ")", x.dig(set, i), i < due.length ? due[i] : -1);
@@ -235,6 +259,43 @@ public final class SearchTest {
         digsAre(y, 1, 3, 2, 0, 6);
         y.want(3, 23, 0, 5);
         digsAre(y, 1);
+        // A room is dug to 1, and to 99.
+        NoonBasins v = new NoonBasins();
+        v.basin(50, 2, 1);
+        Due.read(v, "spring 99;");
+        v.image();
+        v.want(3, 5, 0, 1);
+        digsAre(v, 1, 1, 2, 0, 1);
+        v.back();
+        v.laid(0);
+        v.basin(50, 1, 1);
+        v.want(2, 0, 0, 99);
+        digsAre(v, 1, 98, 2, 0, 99);
+        // By a law that asks for it, a room can matter though nothing ever falls over.
+        NoonBasins w = new NoonBasins();
+        w.basin(50, 9, 9);
+        Due.read(w, "spring 0;sun if room>50?0:1 end;");
+        w.want(2, 3, 0, 9);
+        digsAre(w, 1, 42, 2, 0, 51);
+        // A crest two below, the first of them being as much out of reach as none.
+        NoonBasins u = new NoonBasins();
+        u.basin(50, 9, 5);
+        u.siphon(0, -1, 9, 1, 1, 0);
+        Due.read(u, "");
+        u.want(0, 1, 0, 0);
+        digsAre(u, 1, 2, 1, 0, 7);
+        // The second siphon's crest has its own bounds.
+        NoonBasins t = new NoonBasins();
+        t.basin(50, 9, 4);
+        t.siphon(0, -1, 9, 0, 1, 0);
+        t.siphon(0, -1, 9, 5, 1, 0);
+        Due.read(t, "");
+        t.image();
+        t.want(0, 0, 1, 0);
+        digsAre(t, 1);
+        t.back();
+        t.want(0, 1, 1, 0);
+        digsAre(t, 1, 3, 1, 1, 6);
         // A crest isn't dug to its bare nor above the room, a bore not above 9.
         NoonBasins z = new NoonBasins();
         z.basin(50, 9, 4);
@@ -324,7 +385,7 @@ public final class SearchTest {
         Due.is("look(2)", y.look(2), 3);
         NoonBasins z = new NoonBasins();
         z.basin(9, 99, 0);
-        z.siphon(0, -1, 30, 0, 1, 0);
+        z.siphon(0, -1, 25, 0, 1, 0);
         Due.is("beyond TICK 23", z.look(0), -1);
         Due.is("suspects()", z.suspects(), 16385);
     }

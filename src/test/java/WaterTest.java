@@ -12,6 +12,7 @@ public final class WaterTest {
         theLastTick();
         playing();
         rounds();
+        fullPalace();
         frosts();
         shortness();
         images();
@@ -322,11 +323,93 @@ public final class WaterTest {
         // All comes round in 19 * 24 TICKS, which is beyond 400.
         Due.is("none", z.round(0), -1);
         Due.is("none", z.round(1), -1);
+        // A drop a DAY, in its 15th hour: full behind 376 TICKS, and the same again just behind 400.
+        NoonBasins v = new NoonBasins();
+        v.basin(9, 16, 0);
+        Due.read(v, "spring if hour=15?1:0 end;");
+        v.by(0);
+        Due.is("lead of 376", v.round(0), 376);
+        Due.is("length of 24", v.round(1), 24);
+        v.basin(9, 99, 0);
+        Due.is("as before", v.round(0), 376);
+        v.back();
+        v.basin(9, 17, 0);
+        Due.read(v, "spring if hour=15?1:0 end;");
+        v.by(0);
+        Due.is("beyond 400", v.round(0), -1);
+        each();
         NoonBasins w = new NoonBasins();
         w.basin(9, 99, 0);
         w.siphon(0, -1, 1, 0, 1, 9);
         // It rests 9 TICKS each time, and in them 9 drops come: it runs for good from then on.
         Due.is("the rest counts", w.round(1), 24);
+    }
+
+    /** Each of ten basins tells a state apart: the sun takes one drop of it a DAY. */
+    private static void each() {
+        for (int b = 0; b < 10; b++) {
+            NoonBasins x = new NoonBasins();
+            for (int i = 0; i < 10; i++) {
+                x.basin(9, 9, i == b ? 3 : 0);
+            }
+            Due.read(x, "spring 0;sun if hour=0?1:0 end;");
+            x.by(0);
+            Due.is("lead by basin " + b, x.round(0), 49);
+            Due.is("length by basin " + b, x.round(1), 24);
+        }
+        // Each of fourteen siphons does so by its rest: all play in TICK 0, and one rests 9 TICKS then.
+        for (int s = 0; s < 14; s++) {
+            NoonBasins x = new NoonBasins();
+            x.basin(9, 99, 1);
+            for (int i = 0; i < 14; i++) {
+                x.siphon(0, -1, 1, 0, 1, i == s ? 9 : 0);
+            }
+            Due.read(x, "spring 0;");
+            x.by(0);
+            Due.is("plays", x.plays(0), 16383);
+            Due.is("lead by siphon " + s, x.round(0), 10);
+        }
+    }
+
+    /** As much as there can be of all: no place of any row is beyond its end. */
+    private static void fullPalace() {
+        Due.promise(14, "a full palace");
+        NoonBasins x = new NoonBasins();
+        for (int i = 0; i < 10; i++) {
+            x.basin(99 - i, 99, 50);
+        }
+        for (int i = 0; i < 14; i++) {
+            x.siphon(i % 10, i < 9 ? i + 1 : -1, 40 + i, 3, 1 + i % 9, i % 10);
+        }
+        for (int i = 0; i < 4; i++) {
+            Due.read(x, "spring " + (10 + i) + ";flow bore;sun level/50;due 30;");
+        }
+        x.by(3);
+        for (int i = 0; i < 8; i++) {
+            x.want(i % 4, 23, 9, 40);
+        }
+        for (int i = 0; i < 20; i++) {
+            x.heard(47, 13, false);
+        }
+        for (int i = 0; i < 12; i++) {
+            x.line(40, 13, true);
+        }
+        Due.is("ticks(1)", x.ticks(1) >= 0, true);
+        Due.is("plays(400)", x.plays(400) >= 0, true);
+        Due.is("round(0)", x.round(0) >= -1, true);
+        Due.is("missed()", x.missed() >= 0, true);
+        Due.is("turnsOf(0): plays and doesn't", x.turnsOf(0), -1);
+        Due.is("dig(15, 0)", x.dig(15, 0), -1);
+        Due.is("suspects()", x.suspects() >= 0, true);
+        Due.is("look(0)", x.look(0) >= -1, true);
+        Due.is("frost(400)", x.frost(400) > 0, true);
+        Due.is("dry(1023)", x.dry(1023), -1);
+        Due.is("written(-1)", x.written(-1) >= 0, true);
+        Due.is("shortOf(9)", x.shortOf(9) >= 0, true);
+        Due.is("image()", x.image(), 1);
+        Due.is("back()", x.back(), 1);
+        Due.is("about(39)", x.about(39), 99);
+        Due.is("of(13, 3)", x.of(13, 3), 53);
     }
 
     private static void frosts() {
@@ -390,6 +473,12 @@ public final class WaterTest {
         Due.is("9999 at most, this DAY's own drops", x.shortOf(0), 9999 - 24);
         x.by(2);
         Due.is("0 at least", x.shortOf(0), 0);
+        x.by(1);
+        x.ticks(17);
+        Due.is("about(0)", x.about(0), 47);
+        Due.is("in its last hour", x.shortOf(0), 9999 - 24);
+        x.ticks(1);
+        Due.is("in its first hour", x.shortOf(0), 9999 - 24);
     }
 
     private static void images() {
