@@ -32,11 +32,13 @@ final class Due {
 
     /** The tape is this text alone, then it is read: its number or NONE. */
     static int read(NoonBasins x, String text) {
-        put(x, text.getBytes(StandardCharsets.ISO_8859_1));
+        put(x, text);
         return x.text();
     }
 
-    static void put(NoonBasins x, byte[] bytes) {
+    /** The tape is this text alone. */
+    static void put(NoonBasins x, String text) {
+        byte[] bytes = text.getBytes(StandardCharsets.ISO_8859_1);
         x.end(0);
         ByteBuffer fed = ByteBuffer.wrap(Arrays.copyOf(bytes, (bytes.length + 19) / 20 * 20));
         while (fed.remaining() > 0) {
