@@ -47,6 +47,14 @@ final class Due {
         x.end(bytes.length);
     }
 
+    /** An object without BASINS yet, with this text as THE TEXT. */
+    static NoonBasins ruled(String text) {
+        NoonBasins x = new NoonBasins();
+        is("text() of " + text, read(x, text), 0);
+        x.by(0);
+        return x;
+    }
+
     static void close() {
         System.out.println(count + " answers, " + wrong + " of them wrong");
         if (wrong > 0 || count == 0) {

@@ -17,6 +17,7 @@ public final class FaultEdgesTest {
         rows();
         sums();
         asks();
+        noOtherToken();
         namesOfLaws();
         depthOfEach();
         depthOfMixes();
@@ -205,6 +206,17 @@ public final class FaultEdgesTest {
         fault(" ".repeat(297) + "due", 1, 300);
         fault(" ".repeat(299) + ";", 1, 299);
         fault("d".repeat(300), 1, 0);
+        fault(";".repeat(300), 1, 0);
+        fault("(".repeat(300), 1, 0);
+        fault("1".repeat(300), 1, 0);
+        sound("sun" + "1+".repeat(147) + "1; ");
+        sound("sun" + "1*".repeat(147) + "10;");
+        fault("sun" + "1+".repeat(148) + ";", 1, 299);
+        fault(" ".repeat(299) + "<", 1, 299);
+        fault(" ".repeat(299) + ">", 1, 299);
+        fault("due if 1" + " ".repeat(291) + "<", 1, 300);
+        fault(" ".repeat(298) + "du", 1, 298);
+        fault(" ".repeat(299) + "s", 1, 299);
         fault("due", 1, 3);
         fault("due ", 1, 4);
         fault("due \n", 1, 5);
@@ -354,6 +366,29 @@ public final class FaultEdgesTest {
         fault("due if 1=1?1:1=1 end;", 1, 14);
         fault("due 1=1;", 1, 5);
         fault("due not 1=1;", 1, 4);
+    }
+
+    /** Where just one TOKEN can stand, no other one can; more of a SUM aside, which goes on ahead of it. */
+    private static void noOtherToken() {
+        Due.promise(9, "FAULT 1: it can't stand there");
+        String[] tokens = {"<=", ">=", "<", ">", "=", "#", "+", "-", "*", "/", "(", ")", ",", ";", "?", ":",
+            "1", "day", "x", "if", "end", "or", "and", "not", "due", "!"};
+        String[][] parts = {
+            {"due (1", ")", ";"}, {"due 1", ";", ""}, {"due if 1=1", "?", "1:1 end;"},
+            {"due if 1=1?1", ":", "1 end;"}, {"due if 1=1?1:1", "end", ";"}, {"basin 1", ",", "2,3;"},
+            {"basin 1,2", ",", "3;"}, {"basin 1,2,3", ";", ""}, {"siphon 1,2,3,4", ",", "5;"},
+        };
+        for (String[] part : parts) {
+            for (String token : tokens) {
+                boolean joins = part[0].startsWith("due") && "+-*/".contains(token)
+                        || part[0].endsWith("=1") && (token.equals("or") || token.equals("and"));
+                if (token.equals(part[1])) {
+                    sound(part[0] + " " + token + " " + part[2]);
+                } else if (!joins) {
+                    fault(part[0] + " " + token + " " + part[2], 1, part[0].length() + 1);
+                }
+            }
+        }
     }
 
     private static void namesOfLaws() {
@@ -562,8 +597,16 @@ public final class FaultEdgesTest {
             value("if 6" + signs[i] + "5?1:2 end", more[i] ? 1 : 2);
             value("if -6" + signs[i] + "-5?1:2 end", less[i] ? 1 : 2);
             value("if -1" + signs[i] + "1?1:2 end", less[i] ? 1 : 2);
-            value("if not 5" + signs[i] + "5?1:2 end", like[i] ? 2 : 1);
-            value("if not not 5" + signs[i] + "5?1:2 end", like[i] ? 1 : 2);
+            for (int left = 4; left <= 6; left++) {
+                String ask = left + signs[i] + "5";
+                boolean so = left < 5 ? less[i] : left == 5 ? like[i] : more[i];
+                value("if not " + ask + "?1:2 end", so ? 2 : 1);
+                value("if not not " + ask + "?1:2 end", so ? 1 : 2);
+                value("if " + ask + " and 1=1?1:2 end", so ? 1 : 2);
+                value("if 1=1 and " + ask + "?1:2 end", so ? 1 : 2);
+                value("if " + ask + " or 1=2?1:2 end", so ? 1 : 2);
+                value("if " + ask + " and " + ask + "?1:2 end", so ? 1 : 2);
+            }
         }
         value("if 9999*9999=9999*9998?1:2 end", 1);
         value("if 9999*100=9999*9998?1:2 end", 2);

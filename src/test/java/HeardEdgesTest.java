@@ -27,13 +27,6 @@ public final class HeardEdgesTest {
         Due.close();
     }
 
-    private static NoonBasins ruled(String text) {
-        NoonBasins x = new NoonBasins();
-        Due.is("text() of " + text, Due.read(x, text), 0);
-        x.by(0);
-        return x;
-    }
-
     private static void heardRefused(int t, int siphon) {
         for (boolean played : new boolean[] {false, true}) {
             String name = "heard(" + t + ", " + siphon + ", " + played + ")";
@@ -75,7 +68,7 @@ public final class HeardEdgesTest {
     }
 
     private static NoonBasins fourteen() {
-        NoonBasins x = ruled("spring 0;");
+        NoonBasins x = Due.ruled("spring 0;");
         x.basin(9, 99, 99);
         for (int s = 0; s < 14; s++) {
             x.siphon(0, NONE, 50, 0, 1, 0);
@@ -156,7 +149,7 @@ public final class HeardEdgesTest {
 
     private static void suspectsFromNowOn() {
         Due.promise(22, "suspects: BROKEN from now on, stopped if it RUNS");
-        NoonBasins x = ruled("spring 0;");
+        NoonBasins x = Due.ruled("spring 0;");
         x.basin(90, 9, 9);
         x.basin(80, 9, 0);
         x.siphon(0, 1, 9, 0, 1, 0);
@@ -173,14 +166,14 @@ public final class HeardEdgesTest {
         Due.is("it RUNS all the same", x.of(0, 0), 1);
         Due.is("nothing is changed: 3 and 1 more come, then all go", x.ticks(2), 4);
         // What a BROKEN one doesn't carry stays above, so that another one starts.
-        NoonBasins y = ruled("spring 1;");
+        NoonBasins y = Due.ruled("spring 1;");
         y.basin(90, 9, 0);
         y.siphon(0, NONE, 3, 0, 9, 0);
         y.siphon(0, NONE, 5, 0, 9, 0);
         y.heard(4, 1, true);
         Due.is("the first must be BROKEN", y.suspects(), 1);
         // A shut COCK or one that RESTS: silent, BROKEN or not.
-        NoonBasins z = ruled("spring 0;");
+        NoonBasins z = Due.ruled("spring 0;");
         z.basin(90, 9, 9);
         z.siphon(0, NONE, 5, 0, 1, 0);
         z.cock(0, false);
@@ -190,7 +183,7 @@ public final class HeardEdgesTest {
 
     private static void suspectsOfWhatIsGone() {
         Due.promise(22, "suspects: of what is there no more as of one that doesn't PLAY");
-        NoonBasins x = ruled("spring 0;basin 9,9,9;siphon 0,99,9,0,1;");
+        NoonBasins x = Due.ruled("spring 0;basin 9,9,9;siphon 0,99,9,0,1;");
         x.basin(9, 9, 9);
         x.siphon(0, NONE, 9, 0, 1, 0);
         x.siphon(0, NONE, 9, 0, 1, 0);
@@ -265,7 +258,7 @@ public final class HeardEdgesTest {
     private static void lookOrder() {
         Due.promise(23, "look: of like ones the lowest TICK, then SIPHON");
         // A row of five: SIPHON s plays from TICK s on, if none above is BROKEN nor it itself.
-        NoonBasins x = ruled("spring 1;");
+        NoonBasins x = Due.ruled("spring 1;");
         for (int b = 0; b < 5; b++) {
             x.basin(90 - b, 9, 0);
         }
@@ -281,13 +274,13 @@ public final class HeardEdgesTest {
         Due.is("two SUSPECTS", x.suspects(), 6);
         lookIs("one and one by SIPHON 1", x, 1, 1, 1);
         // With SIPHONS that are told the other way round, the lower one plays later.
-        NoonBasins y = ruled("spring 1;");
+        NoonBasins y = Due.ruled("spring 1;");
         y.basin(90, 9, 0);
         y.basin(80, 9, 0);
         y.siphon(1, NONE, 1, 0, 1, 0);
         y.siphon(0, 1, 1, 0, 1, 0);
         lookIs("the lowest TICK ahead of the lower SIPHON", y, 0, 1, 2);
-        NoonBasins z = ruled("spring 0;");
+        NoonBasins z = Due.ruled("spring 0;");
         z.basin(90, 9, 1);
         z.basin(80, 9, 1);
         z.siphon(1, NONE, 1, 0, 1, 0);
@@ -296,7 +289,7 @@ public final class HeardEdgesTest {
         z.heard(0, 0, true);
         lookIs("then the other one", z, 0, 1, 1);
         // SIPHON 13 alone tells something.
-        NoonBasins w = ruled("spring 0;");
+        NoonBasins w = Due.ruled("spring 0;");
         w.basin(90, 9, 1);
         for (int s = 0; s < 14; s++) {
             w.siphon(0, NONE, s == 13 ? 1 : 9, 0, 1, 0);
@@ -433,7 +426,7 @@ public final class HeardEdgesTest {
 
     private static void writtenOfWhatIsGone() {
         Due.promise(27, "written: of what is there no more as of one that doesn't PLAY");
-        NoonBasins x = ruled("basin 9,9,9;siphon 0,99,9,0,1;");
+        NoonBasins x = Due.ruled("basin 9,9,9;siphon 0,99,9,0,1;");
         x.basin(9, 9, 9);
         x.siphon(0, NONE, 9, 0, 1, 0);
         x.siphon(0, NONE, 9, 0, 1, 0);

@@ -1,5 +1,3 @@
-import java.util.List;
-
 /** Promises 29 and 30: all that AN IMAGE holds, and what it doesn't. */
 public final class ImageEdgesTest {
     private static final int NONE = NoonBasins.NONE;
@@ -58,19 +56,12 @@ public final class ImageEdgesTest {
             NoonBasins x = new NoonBasins();
             making.of(x);
             x.image();
-            List<String> due = Sight.of(x);
             NoonBasins y = new NoonBasins();
             making.of(y);
             y.image();
             wreck(y);
             y.back();
-            List<String> seen = Sight.of(y);
-            Due.is("as many answers", seen.size(), due.size());
-            for (int i = 0; i < Math.min(seen.size(), due.size()); i++) {
-                if (!seen.get(i).equals(due.get(i))) {
-                    Due.holds(seen.get(i) + ", was " + due.get(i), false);
-                }
-            }
+            Sight.same("back()", Sight.of(y), Sight.of(x));
         }
     }
 
@@ -153,6 +144,28 @@ public final class ImageEdgesTest {
         Due.is("BORE", x.of(0, 4), 1);
         Due.is("plays as it did", x.plays(0), 1);
         Due.is("to BARE as it did", x.ticks(9), 4);
+        endsOfSiphons();
+    }
+
+    private static void endsOfSiphons() {
+        NoonBasins x = new NoonBasins();
+        Due.read(x, "spring 0;");
+        x.by(0);
+        x.basin(50, 9, 9);
+        x.basin(40, 9, 9);
+        x.basin(30, 9, 0);
+        x.siphon(1, 2, 9, 0, 3, 0);
+        x.image();
+        x.laid(0);
+        x.basin(50, 9, 9);
+        x.basin(40, 9, 0);
+        x.siphon(0, NONE, 9, 0, 3, 0);
+        Due.is("to the garden", x.ticks(1), 3);
+        x.back();
+        Due.is("FROM and TO", x.ticks(1), 0);
+        Due.is("not FROM 0", x.drops(0), 9);
+        Due.is("FROM 1", x.drops(1), 6);
+        Due.is("TO 2", x.drops(2), 3);
     }
 
     private static void tapeAndFaultStay() {

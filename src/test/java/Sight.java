@@ -25,6 +25,19 @@ final class Sight {
         return s.answers;
     }
 
+    /** The first answer that isn't the one that is due stands for all of them: one trace leaves many. */
+    static void same(String what, List<String> seen, List<String> due) {
+        for (int i = 0; i < Math.max(seen.size(), due.size()); i++) {
+            String got = i < seen.size() ? seen.get(i) : "nothing";
+            String wanted = i < due.size() ? due.get(i) : "nothing";
+            if (!got.equals(wanted)) {
+                Due.holds(what + ": " + got + ", due: " + wanted, false);
+                return;
+            }
+        }
+        Due.holds(what, true);
+    }
+
     private void tell(String call, int answer) {
         answers.add(call + " is " + answer);
     }

@@ -14,6 +14,7 @@ public final class TapeEdgesTest {
         texts();
         fourTexts();
         wrongTexts();
+        nothingOfAWrongOne();
         faults();
         rulers();
         laidOthers();
@@ -176,6 +177,37 @@ public final class TapeEdgesTest {
         Due.is("the next one takes its number", Due.read(x, "sun 1;"), 1);
         x.by(1);
         Due.is("and has nothing of it", x.shortOf(0), 0);
+    }
+
+    /** What was read of a text ahead of its FAULT is in no TEXT that comes later, under its number or not. */
+    private static void nothingOfAWrongOne() {
+        Due.promise(8, "text: nothing of one that has a FAULT");
+        NoonBasins x = new NoonBasins();
+        Due.read(x, "spring -9+(-9);flow 9;sun 9;due 9;" + "basin 5,5,5;".repeat(16) + "!");
+        Due.is("an empty one", Due.read(x, ""), 0);
+        Due.is("laid(0)", x.laid(0), NONE);
+        Due.is("BASINS", x.about(1), 0);
+        x.basin(5, 9, 5);
+        x.by(0);
+        Due.is("its due is 0", x.shortOf(0), 0);
+        x.ticks(1);
+        Due.is("its spring is 1, its sun 0", x.drops(0), 6);
+        for (int i = 0; i < 5; i++) {
+            Due.read(x, "due " + "1+".repeat(140) + "1;;");
+        }
+        Due.read(x, "spring -1;siphon 0,99,1,0,1;basin 5,5,5;!");
+        Due.is("a short one", Due.read(x, "spring 3;basin 7,9,0;"), 1);
+        Due.is("laid(1)", x.laid(1), NONE);
+        Due.is("BASINS", x.about(1), 1);
+        Due.is("SIPHONS", x.about(2), 0);
+        Due.is("HEIGHT", x.about(20), 7);
+        x.by(1);
+        x.ticks(1);
+        Due.is("its spring is 3", x.drops(0), 3);
+        Due.is("a law behind a law", Due.read(x, "spring 2;sun -level;"), 2);
+        x.by(2);
+        x.ticks(1);
+        Due.is("its spring is 2", x.drops(0), 5);
     }
 
     private static void faults() {
@@ -345,6 +377,7 @@ public final class TapeEdgesTest {
         laidIs("basin 1,2,0;".repeat(10), NONE, 10, 0);
         laidIs("basin 1,2,0;".repeat(11), 10, 10, 0);
         laidIs("basin 1,2,0;".repeat(20), 10, 10, 0);
+        laidIs("basin 9,2,0;".repeat(10) + "siphon 9,99,1,0,1;".repeat(10), NONE, 10, 10);
         laidIs("basin 9,2,0;" + "siphon 0,99,1,0,1;".repeat(14), NONE, 1, 14);
         laidIs("basin 9,2,0;" + "siphon 0,99,1,0,1;".repeat(15), 15, 1, 14);
     }

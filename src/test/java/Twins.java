@@ -32,13 +32,7 @@ final class Twins {
     void refuse(String name, int due, Call call) {
         NoonBasins x = make();
         Due.is(name, call.on(x), due);
-        List<String> seen = Sight.of(x);
-        Due.is("answers behind " + name, seen.size(), untouched.size());
-        for (int i = 0; i < Math.min(seen.size(), untouched.size()); i++) {
-            if (!seen.get(i).equals(untouched.get(i))) {
-                Due.holds(name + " changes nothing: " + seen.get(i) + ", without it " + untouched.get(i), false);
-            }
-        }
+        Sight.same(name + " changes nothing", Sight.of(x), untouched);
     }
 
     void refuse(String name, Asking call) {

@@ -22,22 +22,19 @@ public final class WantEdgesTest {
         turnsOfThirteen();
         turnsAreTwoAtMost();
         turnsOfWhatIsGone();
+        turnsByLevels();
+        turnsFromFar();
         digOthers();
         digSets();
         digBores();
         digCrests();
         digRooms();
         digRoomsOfOthers();
+        digOfTheLast();
+        digOfOneThatRuns();
         digOrder();
         digNone();
         Due.close();
-    }
-
-    private static NoonBasins ruled(String text) {
-        NoonBasins x = new NoonBasins();
-        Due.is("text() of " + text, Due.read(x, text), 0);
-        x.by(0);
-        return x;
     }
 
     private static void wantRefused(int kind, int t, int which, int v) {
@@ -150,14 +147,14 @@ public final class WantEdgesTest {
     private static void missedOrder() {
         Due.promise(18, "missed: the first WANT that isn't met");
         for (int missed = 0; missed < 8; missed++) {
-            NoonBasins x = ruled("spring 0;");
+            NoonBasins x = Due.ruled("spring 0;");
             x.basin(9, 9, 5);
             for (int i = 0; i < 8; i++) {
                 x.want(2, 23 - i, 0, i == missed ? 6 : 5);
             }
             Due.is("of eight", x.missed(), missed);
         }
-        NoonBasins y = ruled("spring 0;");
+        NoonBasins y = Due.ruled("spring 0;");
         y.basin(9, 9, 5);
         y.want(2, 23, 0, 9);
         y.want(2, 0, 0, 9);
@@ -167,16 +164,16 @@ public final class WantEdgesTest {
     private static void missedLevels() {
         Due.promise(18, "missed: v or more, v or less");
         for (int v = 4; v <= 6; v++) {
-            NoonBasins x = ruled("spring 0;");
+            NoonBasins x = Due.ruled("spring 0;");
             x.basin(9, 9, 5);
             x.want(2, 0, 0, v);
             Due.is(v + " or more of 5", x.missed(), v <= 5 ? NONE : 0);
-            NoonBasins y = ruled("spring 0;");
+            NoonBasins y = Due.ruled("spring 0;");
             y.basin(9, 9, 5);
             y.want(3, 0, 0, v);
             Due.is(v + " or less of 5", y.missed(), v >= 5 ? NONE : 0);
         }
-        NoonBasins z = ruled("spring 0;");
+        NoonBasins z = Due.ruled("spring 0;");
         z.basin(9, 99, 99);
         z.basin(9, 99, 0);
         z.want(2, 0, 0, 99);
@@ -208,7 +205,7 @@ public final class WantEdgesTest {
         w.ticks(1);
         Due.is("from THE TICK on", w.missed(), NONE);
         // Playing counts though 0 were carried.
-        NoonBasins v = ruled("spring 0;flow 0;");
+        NoonBasins v = Due.ruled("spring 0;flow 0;");
         v.basin(9, 9, 9);
         v.siphon(0, NONE, 9, 0, 1, 0);
         v.want(0, 23, 0, 0);
@@ -216,7 +213,7 @@ public final class WantEdgesTest {
     }
 
     private static NoonBasins withWantsOfWhatGoes(int... kinds) {
-        NoonBasins x = ruled("spring 9;basin 9,9,9;siphon 0,99,9,0,9;");
+        NoonBasins x = Due.ruled("spring 9;basin 9,9,9;siphon 0,99,9,0,9;");
         x.basin(9, 9, 9);
         x.basin(9, 9, 9);
         x.siphon(0, NONE, 9, 0, 9, 0);
@@ -279,7 +276,7 @@ public final class WantEdgesTest {
 
     /** Nine DROPS and a SIPHON that carries one a TICK, as long as it is open. */
     private static NoonBasins running(int drops) {
-        NoonBasins x = ruled("spring 0;");
+        NoonBasins x = Due.ruled("spring 0;");
         x.basin(9, 99, drops);
         x.siphon(0, NONE, 1, 0, 1, 0);
         return x;
@@ -334,13 +331,13 @@ public final class WantEdgesTest {
         y.want(1, 4, 0, 0);
         turnsAre("not in TICK 4", y, 2, 5, 0, 10, 0);
         Due.promise(19, "turnsOf: of one TICK the lower SIPHON");
-        NoonBasins z = ruled("spring 0;");
+        NoonBasins z = Due.ruled("spring 0;");
         z.basin(9, 9, 9);
         z.siphon(0, NONE, 9, 8, 1, 0);
         z.siphon(0, NONE, 9, 8, 1, 0);
         z.want(2, 0, 0, 9);
         turnsAre("both have to be shut", z, 2, 0, 0, 0, 1);
-        NoonBasins w = ruled("spring 0;");
+        NoonBasins w = Due.ruled("spring 0;");
         w.basin(9, 9, 9);
         w.siphon(0, NONE, 9, 0, 1, 0);
         w.siphon(0, NONE, 9, 0, 1, 0);
@@ -352,7 +349,7 @@ public final class WantEdgesTest {
 
     private static void turnsOfThirteen() {
         Due.promise(19, "turnsOf: SIPHONS 0 .. 13");
-        NoonBasins x = ruled("spring 0;");
+        NoonBasins x = Due.ruled("spring 0;");
         x.basin(9, 99, 99);
         for (int s = 0; s < 14; s++) {
             x.siphon(0, NONE, 99, 98, 1, 0);
@@ -364,7 +361,7 @@ public final class WantEdgesTest {
         turnsAre("the last two", x, 2, 0, 12, 0, 13);
         x.want(1, 0, 0, 0);
         turnsAre("three", x, NONE);
-        NoonBasins y = ruled("spring 0;");
+        NoonBasins y = Due.ruled("spring 0;");
         y.basin(9, 99, 50);
         for (int s = 0; s < 14; s++) {
             y.siphon(0, NONE, s == 13 ? 1 : 99, 0, 1, 0);
@@ -403,6 +400,73 @@ public final class WantEdgesTest {
         y.want(1, 0, 0, 0);
         y.laid(0);
         turnsAre("with one that is there", y, 1, 0, 0);
+    }
+
+    /** A WANT that is met anyhow, by any level that can be told, hides no turn that another one needs. */
+    private static void turnsByLevels() {
+        Due.promise(19, "turnsOf: with WANTS that are met anyhow");
+        NoonBasins x = running(30);
+        x.image();
+        int[][] met = {{3, 5, 0, 99}, {2, 5, 0, 0}, {0, 0, 0, 1000}, {0, 0, 0, -1}};
+        for (int[] w : met) {
+            x.want(w[0], w[1], w[2], w[3]);
+            turnsAre("none is needed", x, 0);
+            x.want(1, 7, 0, 1000);
+            turnsAre("one is needed", x, 1, w[0] == 0 ? 1 : 0, 0);
+            x.back();
+        }
+        Due.promise(19, "turnsOf: as much as there is ROOM for");
+        for (int v = 8; v <= 10; v++) {
+            NoonBasins y = new NoonBasins();
+            y.basin(9, 9, 5);
+            y.siphon(0, NONE, 5, 0, 9, 0);
+            y.want(2, 23, 0, v);
+            if (v <= 9) {
+                turnsAre(v + " of 9", y, 1, 0, 0);
+            } else {
+                turnsAre(v + " of 9", y, NONE);
+            }
+        }
+        Due.promise(19, "turnsOf: with WANTS of what is there no more");
+        NoonBasins z = withWantsOfWhatGoes();
+        z.want(2, 0, 1, 0);
+        z.want(3, 0, 1, 0);
+        z.want(1, 0, 1, 0);
+        z.want(1, 0, 0, 0);
+        z.laid(0);
+        turnsAre("they are met", z, 1, 0, 0);
+    }
+
+    /** Nine BASINS below one another: what is turned at the top is wanted at the bottom. */
+    private static void turnsFromFar() {
+        Due.promise(19, "turnsOf: of any SIPHON");
+        NoonBasins x = Due.ruled("spring 0;");
+        for (int b = 0; b < 10; b++) {
+            x.basin(90 - b, 9, b == 0 ? 9 : 0);
+        }
+        // Told from the bottom up, so that each is far from the one that it depends on.
+        for (int b = 8; b >= 0; b--) {
+            x.siphon(b, b + 1, 9, 0, 9, 0);
+        }
+        x.want(2, 9, 9, 9);
+        turnsAre("all comes down by itself", x, 0);
+        x.cock(8, false);
+        turnsAre("the SIPHON at the top", x, 1, 0, 8);
+        x.want(3, 8, 9, 0);
+        turnsAre("a TICK later", x, 1, 1, 8);
+        x.cock(8, true);
+        turnsAre("not ahead of its time", x, 2, 0, 0, 9, 0);
+        NoonBasins y = Due.ruled("spring 0;");
+        y.basin(90, 9, 9);
+        y.basin(80, 9, 9);
+        y.basin(70, 9, 0);
+        y.siphon(0, NONE, 9, 0, 9, 0);
+        y.siphon(0, 2, 9, 0, 9, 0);
+        y.siphon(1, NONE, 9, 0, 9, 0);
+        y.want(2, 0, 2, 9);
+        turnsAre("another one from there takes it all", y, 1, 0, 0);
+        y.want(2, 0, 1, 9);
+        turnsAre("and one from elsewhere", y, 2, 0, 0, 0, 2);
     }
 
     private static void digsAre(String what, NoonBasins x, int set, int... due) {
@@ -469,7 +533,7 @@ public final class WantEdgesTest {
         Due.promise(20, "dig: BORES 1 .. 9");
         // Behind TICK 0 there are 20 less BORE; CREST and ROOM can't be otherwise to any end.
         for (int wanted = 10; wanted <= 20; wanted++) {
-            NoonBasins x = ruled("spring 0;");
+            NoonBasins x = Due.ruled("spring 0;");
             x.basin(9, 20, 20);
             x.siphon(0, NONE, 20, 0, 5, 0);
             x.want(2, 0, 0, wanted);
@@ -482,7 +546,7 @@ public final class WantEdgesTest {
             }
         }
         for (int old : new int[] {1, 9}) {
-            NoonBasins x = ruled("spring 0;");
+            NoonBasins x = Due.ruled("spring 0;");
             x.basin(9, 20, 20);
             x.siphon(0, NONE, 20, 0, old, 0);
             int other = 10 - old;
@@ -495,7 +559,7 @@ public final class WantEdgesTest {
     private static void digCrests() {
         Due.promise(20, "dig: CRESTS from BARE + 1");
         for (int drops = 3; drops <= 9; drops++) {
-            NoonBasins x = ruled("spring 0;");
+            NoonBasins x = Due.ruled("spring 0;");
             x.basin(9, 9, drops);
             x.siphon(0, NONE, 9, 4, 1, 0);
             x.want(0, 0, 0, 0);
@@ -507,7 +571,7 @@ public final class WantEdgesTest {
         }
         Due.promise(20, "dig: CRESTS to ROOM of FROM");
         for (int drops = 4; drops <= 9; drops++) {
-            NoonBasins x = ruled("spring 0;");
+            NoonBasins x = Due.ruled("spring 0;");
             x.basin(9, 9, drops);
             x.siphon(0, NONE, 5, 4, 1, 0);
             x.want(1, 0, 0, 0);
@@ -518,14 +582,14 @@ public final class WantEdgesTest {
             }
         }
         // ROOM of FROM, not of TO or of BASIN 0.
-        NoonBasins y = ruled("spring 0;");
+        NoonBasins y = Due.ruled("spring 0;");
         y.basin(90, 99, 0);
         y.basin(80, 6, 5);
         y.basin(70, 99, 0);
         y.siphon(1, 2, 5, 4, 1, 0);
         y.want(1, 0, 0, 0);
         digsAre("to 6", y, 1, 1, 1, 0, 6);
-        NoonBasins z = ruled("spring 0;");
+        NoonBasins z = Due.ruled("spring 0;");
         z.basin(90, 99, 0);
         z.basin(80, 6, 6);
         z.basin(70, 99, 0);
@@ -536,35 +600,43 @@ public final class WantEdgesTest {
 
     private static void digRooms() {
         Due.promise(20, "dig: ROOMS 1 .. 99");
-        NoonBasins x = ruled("spring 99;");
+        NoonBasins x = Due.ruled("spring 99;");
         x.basin(9, 1, 0);
         x.image();
         x.want(2, 0, 0, 99);
         digsAre("from 1 to 99", x, 1, 98, 2, 0, 99);
         x.back();
-        NoonBasins y = ruled("spring 99;");
+        NoonBasins y = Due.ruled("spring 99;");
         y.basin(9, 99, 0);
         y.want(3, 0, 0, 1);
         digsAre("from 99 to 1", y, 1, 98, 2, 0, 1);
-        NoonBasins z = ruled("spring 99;");
+        NoonBasins z = Due.ruled("spring 99;");
         z.basin(9, 99, 0);
         z.want(3, 0, 0, 0);
         digsAre("not to 0", z, 1);
-        NoonBasins w = ruled("spring 99;sun level;");
+        NoonBasins r = Due.ruled("spring 99;");
+        r.basin(9, 50, 0);
+        r.want(3, 0, 0, 0);
+        digsAre("from 50 not to 0", r, 1);
+        NoonBasins q = Due.ruled("spring 99;sun if room>99?0:level end;");
+        q.basin(9, 50, 0);
+        q.want(2, 0, 0, 1);
+        digsAre("from 50 not to 100", q, 1);
+        NoonBasins w = Due.ruled("spring 99;sun level;");
         w.basin(9, 50, 0);
         w.want(2, 0, 0, 1);
         digsAre("the sun takes all", w, 1);
-        NoonBasins v = ruled("spring 99;sun if room=99?0:level end;");
+        NoonBasins v = Due.ruled("spring 99;sun if room=99?0:level end;");
         v.basin(9, 50, 0);
         v.want(2, 0, 0, 1);
         digsAre("99 alone", v, 1, 49, 2, 0, 99);
-        NoonBasins u = ruled("spring 99;sun if room=1?0:level end;");
+        NoonBasins u = Due.ruled("spring 99;sun if room=1?0:level end;");
         u.basin(9, 50, 0);
         u.want(2, 0, 0, 1);
         digsAre("1 alone", u, 1, 49, 2, 0, 1);
         Due.promise(20, "dig: ROOMS that aren't below their DROPS");
         for (int drops = 3; drops <= 5; drops++) {
-            NoonBasins t = ruled("spring 9;");
+            NoonBasins t = Due.ruled("spring 9;");
             t.basin(9, 8, drops);
             t.want(3, 0, 0, 4);
             if (drops <= 4) {
@@ -575,25 +647,32 @@ public final class WantEdgesTest {
         }
         Due.promise(20, "dig: ROOMS that aren't below a CREST from there");
         for (int crest = 3; crest <= 5; crest++) {
-            NoonBasins t = ruled("spring 9;");
-            t.basin(9, 8, 0);
-            t.siphon(0, NONE, 2, 0, 1, 0);
-            t.siphon(0, NONE, crest, 0, 1, 0);
-            t.cock(0, false);
-            t.cock(1, false);
-            t.want(3, 0, 0, 4);
-            if (crest <= 4) {
-                digsAre("CREST " + crest, t, 1, 4, 2, 0, 4);
-            } else {
-                digsAre("CREST " + crest, t, 1);
+            for (int which = 0; which < 3; which++) {
+                NoonBasins t = Due.ruled("spring 9;");
+                t.basin(9, 8, 0);
+                for (int s = 0; s < 3; s++) {
+                    t.siphon(0, NONE, s == which ? crest : 2, 0, 1, 0);
+                    t.cock(s, false);
+                }
+                t.want(3, 0, 0, 4);
+                if (crest <= 4) {
+                    digsAre("CREST " + crest + " of SIPHON " + which, t, 1, 4, 2, 0, 4);
+                } else {
+                    digsAre("CREST " + crest + " of SIPHON " + which, t, 1);
+                }
             }
         }
+        Due.promise(20, "dig: ROOMS, where nothing ever falls over");
+        NoonBasins p = Due.ruled("spring 0;sun if room>50?0:1 end;");
+        p.basin(50, 9, 9);
+        p.want(2, 3, 0, 9);
+        digsAre("the sun asks for it", p, 1, 42, 2, 0, 51);
     }
 
     /** A SIPHON to a BASIN, or from another one, doesn't bind its ROOM. */
     private static void digRoomsOfOthers() {
         Due.promise(20, "dig: ROOMS, a CREST of a SIPHON from there alone");
-        NoonBasins x = ruled("spring 0;");
+        NoonBasins x = Due.ruled("spring 0;");
         x.basin(90, 20, 20);
         x.basin(80, 20, 0);
         x.siphon(0, 1, 19, 0, 9, 0);
@@ -602,7 +681,7 @@ public final class WantEdgesTest {
         x.want(3, 1, 0, 2);
         // Both TICKS carry 9: what is to stay below is 3, whatever else is dug.
         digsAre("BASIN 1 to 3", x, 1, 17, 2, 1, 3);
-        NoonBasins y = ruled("spring 0;sun if room=7 and height=5?0:level end;");
+        NoonBasins y = Due.ruled("spring 0;sun if room=7 and height=5?0:level end;");
         y.basin(90, 20, 20);
         for (int b = 1; b < 10; b++) {
             y.basin(b == 9 ? 5 : 6, 8, 1);
@@ -611,38 +690,125 @@ public final class WantEdgesTest {
         digsAre("BASIN 9 to 7", y, 1, 1, 2, 9, 7);
     }
 
+    /** As many as there can be: the last BORE, CREST and ROOM can be dug too. */
+    private static void digOfTheLast() {
+        Due.promise(20, "dig: of SIPHONS 0 .. 13, of BASINS 0 .. 9");
+        NoonBasins x = Due.ruled("spring 0;");
+        for (int b = 0; b < 10; b++) {
+            x.basin(50, 20, 9);
+        }
+        for (int s = 0; s < 14; s++) {
+            x.siphon(s == 13 ? 8 : 7, NONE, s == 13 ? 15 : 20, s == 13 ? 3 : 0, 2, 0);
+        }
+        x.want(0, 0, 13, 0);
+        digsAre("CREST of SIPHON 13", x, 1, 6, 1, 13, 9);
+        NoonBasins u = Due.ruled("spring 0;");
+        u.basin(50, 20, 9);
+        for (int s = 0; s < 14; s++) {
+            u.siphon(0, NONE, 20, s == 0 ? 0 : 9, 1, 0);
+        }
+        u.image();
+        for (int s = 0; s < 14; s++) {
+            u.back();
+            u.want(0, 0, s, 0);
+            if (s == 0) {
+                digsAre("CREST of SIPHON 0, BARE 0", u, 1, 11, 1, 0, 9);
+            } else {
+                digsAre("CREST of SIPHON " + s + ", BARE 9", u, 1);
+            }
+        }
+        NoonBasins y = Due.ruled("spring 0;");
+        for (int b = 0; b < 10; b++) {
+            y.basin(50, 20, 9);
+        }
+        for (int s = 0; s < 14; s++) {
+            y.siphon(s == 13 ? 8 : 7, NONE, 9, 0, s == 13 ? 2 : 9, 0);
+        }
+        y.want(3, 0, 8, 4);
+        digsAre("BORE of SIPHON 13", y, 1, 3, 0, 13, 5);
+        NoonBasins z = Due.ruled("spring 0;sun if room=17?0:level end;");
+        for (int b = 0; b < 10; b++) {
+            z.basin(50, 20, 9);
+        }
+        for (int s = 0; s < 14; s++) {
+            z.siphon(7, NONE, 20, 0, 9, 0);
+        }
+        z.image();
+        z.want(2, 0, 9, 9);
+        digsAre("ROOM of BASIN 9", z, 1, 3, 2, 9, 17);
+        z.back();
+        z.want(2, 0, 7, 9);
+        digsAre("ROOM of BASIN 7 isn't below a CREST", z, 1);
+        // One that is there no more binds no ROOM.
+        NoonBasins w = Due.ruled("spring 9;basin 9,8,0;");
+        w.basin(9, 8, 0);
+        w.siphon(0, NONE, 8, 0, 1, 0);
+        w.laid(0);
+        w.want(3, 0, 0, 4);
+        digsAre("the SIPHON is gone", w, 1, 4, 2, 0, 4);
+        // Few SIPHONS and many BASINS.
+        NoonBasins v = Due.ruled("spring 0;");
+        for (int b = 0; b < 10; b++) {
+            v.basin(50, 20, 9);
+        }
+        for (int s = 0; s < 5; s++) {
+            v.siphon(9, NONE, 20, 0, 1, 0);
+        }
+        v.want(2, 0, 3, 20);
+        digsAre("none does", v, 1);
+    }
+
+    /** One that RUNS already starts no more: its BORE matters all the same, its CREST doesn't. */
+    private static void digOfOneThatRuns() {
+        Due.promise(20, "dig: of one that RUNS");
+        NoonBasins x = Due.ruled("spring 0;");
+        x.basin(9, 99, 99);
+        x.siphon(0, NONE, 99, 0, 3, 0);
+        x.ticks(1);
+        Due.is("it RUNS", x.of(0, 0), 1);
+        x.image();
+        x.want(3, 0, 0, 91);
+        digsAre("a BORE of 5", x, 1, 2, 0, 0, 5);
+        x.back();
+        x.want(1, 0, 0, 0);
+        digsAre("no CREST stops it", x, 1);
+        x.back();
+        x.want(2, 0, 0, 95);
+        digsAre("a BORE of 1", x, 1, 2, 0, 0, 1);
+    }
+
     private static void digOrder() {
         Due.promise(20, "dig: that by which the number changes least, of like ones the first");
         // Behind TICK 0 there are 9 less 5: a BORE of 4, a CREST of 10 or a sun less by ROOM would do.
-        NoonBasins x = ruled("spring 0;");
+        NoonBasins x = Due.ruled("spring 0;");
         x.basin(9, 10, 9);
         x.siphon(0, NONE, 9, 0, 5, 0);
         x.want(2, 0, 0, 5);
         digsAre("BORE ahead of CREST", x, 1, 1, 0, 0, 4);
         x.want(2, 0, 0, 6);
         digsAre("less change ahead of the order", x, 1, 1, 1, 0, 10);
-        NoonBasins y = ruled("spring 0;sun if room=10?1:0 end;");
+        NoonBasins y = Due.ruled("spring 0;sun if room=10?1:0 end;");
         y.basin(9, 10, 9);
         y.siphon(0, NONE, 9, 8, 1, 0);
         y.want(2, 0, 0, 8);
         digsAre("CREST ahead of ROOM", y, 1, 1, 1, 0, 10);
-        NoonBasins z = ruled("spring 0;sun if room=10?1:0 end;");
+        NoonBasins z = Due.ruled("spring 0;sun if room=10?1:0 end;");
         z.basin(9, 10, 9);
         z.want(2, 0, 0, 9);
         digsAre("9 ahead of 11", z, 1, 1, 2, 0, 9);
-        NoonBasins w = ruled("spring 0;flow if bore=5?0:1 end;");
+        NoonBasins w = Due.ruled("spring 0;flow if bore=5?0:1 end;");
         w.basin(9, 10, 9);
         w.siphon(0, NONE, 9, 0, 5, 0);
         w.siphon(0, NONE, 9, 0, 5, 0);
         w.want(3, 0, 0, 8);
         digsAre("4 ahead of 6, SIPHON 0 ahead of SIPHON 1", w, 1, 1, 0, 0, 4);
-        NoonBasins v = ruled("spring 0;flow if bore=5 or bore=4?0:1 end;");
+        NoonBasins v = Due.ruled("spring 0;flow if bore=5 or bore=4?0:1 end;");
         v.basin(9, 10, 9);
         v.siphon(0, NONE, 9, 0, 4, 0);
         v.siphon(0, NONE, 9, 0, 5, 0);
         v.want(3, 0, 0, 8);
         digsAre("SIPHON 0 to 3", v, 1, 1, 0, 0, 3);
-        NoonBasins u = ruled("spring 0;sun if room=10?level:0 end;");
+        NoonBasins u = Due.ruled("spring 0;sun if room=10?level:0 end;");
         u.basin(9, 10, 9);
         u.basin(9, 10, 9);
         u.want(2, 0, 1, 9);
@@ -651,7 +817,7 @@ public final class WantEdgesTest {
 
     private static void digNone() {
         Due.promise(20, "dig: none (also if all are met without)");
-        NoonBasins x = ruled("spring 1;");
+        NoonBasins x = Due.ruled("spring 1;");
         Due.read(x, "spring 2;");
         x.basin(9, 9, 5);
         digsAre("without WANTS", x, 1);
@@ -664,7 +830,7 @@ public final class WantEdgesTest {
         digsAre("by both", x, 3, 3, 2, 0, 6);
         Due.is("nothing is dug", x.about(30), 9);
         // TURNS are none of it: what just a turn would bring can't be dug.
-        NoonBasins y = ruled("spring 0;");
+        NoonBasins y = Due.ruled("spring 0;");
         y.basin(9, 9, 9);
         y.siphon(0, NONE, 9, 0, 1, 0);
         y.cock(0, false);
