@@ -1537,6 +1537,7 @@ public final class NoonBasins {
                     }
                     twice.copyFrom(once);
                     twice.open ^= 1 << s;
+                    // Written out, not isMet: calls stay eight deep.
                     boolean met = true;
                     for (int u = t; u <= last && met; u++) {
                         met = palace.wants.unmet(u, engine.step(twice), twice) == 0;
